@@ -31,10 +31,12 @@ public final class VivaTest {
 
     private static void barredBySupervisionTiesAndKin() {
         Vivahouse x = Houses.supervised();
-        CHECK.refuses("no such candidate", INDEX, x, () -> x.barred(1, 0));
+        CHECK.refuses("no such candidate", INDEX, x, () -> x.barred(2, 0));
         CHECK.refuses("no such member", INDEX, x, () -> x.barred(0, 8));
         CHECK.refuses("member below 0", INDEX, x, () -> x.barred(0, -1));
         CHECK.same("supervises", x.barred(0, 0), 's');
+        x.candidate('f', false);
+        CHECK.same("supervises another one", x.barred(1, 0), '-');
         CHECK.same("for no reason", x.barred(0, 4), '-');
         x.tie(4, 0, 'p');
         CHECK.same("a tie to the first one", x.barred(0, 4), 't');
@@ -381,7 +383,7 @@ public final class VivaTest {
         CHECK.same("soundness", x.isSound(), true);
         Vivahouse told = Houses.after('m', 'f');
         told.appeal(0, true);
-        CHECK.same("its examiners may be told anew", told.examiners(0, 2, 5), 0);
+        CHECK.same("its examiners may be told anew", told.examiners(0, 1, 5), 0);
         Vivahouse not = Houses.after('m', 'm');
         CHECK.same("not upheld", not.appeal(0, false), false);
         CHECK.same("all stays: state", not.state(0), 'o');

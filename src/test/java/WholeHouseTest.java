@@ -1,3 +1,6 @@
+import java.lang.reflect.Field;
+import java.util.List;
+
 /** Promises 45 to 48: what is told of the whole house. */
 public final class WholeHouseTest {
     private static final Class<?> ARITHMETIC = ArithmeticException.class;
@@ -6,12 +9,14 @@ public final class WholeHouseTest {
     private WholeHouseTest() {
     }
 
-    public static void main(String[] args) {
+    public static void main(String[] args) throws ReflectiveOperationException {
         checksum();
         awardShare();
         meanClock();
         isSound();
         isSoundToTheLastMonth();
+        isSoundWhenOver();
+        unsoundHouses();
         CHECK.end();
     }
 
@@ -139,5 +144,70 @@ public final class WholeHouseTest {
         x.pass(54);
         CHECK.same("the clock in the end", x.clock(0), 12 + 5 * 60 + 4 * 120 + 54);
         CHECK.same("sound in the last month", x.isSound(), true);
+    }
+
+    private static void isSoundWhenOver() {
+        Vivahouse limit = Houses.upgraded();
+        limit.pass(12);
+        Vivahouse upgrade = Houses.entered();
+        upgrade.pass(6);
+        Vivahouse corrections = Houses.after('j', 'j');
+        corrections.pass(4);
+        Vivahouse viva = Houses.after('f', 'f');
+        Vivahouse tried = Houses.over();
+        for (Vivahouse x : new Vivahouse[] {limit, upgrade, corrections, viva, tried, Houses.awarded()}) {
+            CHECK.same("sound at the end by " + x.outcome(0), x.isSound(), true);
+            x.pass(7);
+            CHECK.same("sound after the end by " + x.outcome(0), x.isSound(), true);
+        }
+    }
+
+    /** No run of calls makes a house unsound, so a fault is put inside to see that it is told. */
+    private static void unsoundHouses() throws ReflectiveOperationException {
+        for (int candidate = 0; candidate < 2; candidate++) {
+            for (String fault : new String[] {"none", "halves", "money", "left", "one", "other", "outcome"}) {
+                Vivahouse x = Houses.examined();
+                x.candidate('h', false);
+                x.supervise(1, 0, true);
+                x.upgrade(1, 1, true, 2, true);
+                x.grant(0, 5, 9, 0);
+                x.grant(1, 7, 9, 0);
+                x.pass(12);
+                x.deposit(1, 0);
+                x.examiners(1, 1, 5);
+                x.viva(1, 'f', 'f');
+                x.viva(0, 'f', 'f');
+                putFault(x, candidate, fault);
+                CHECK.same("a fault of " + fault + " of " + candidate, x.isSound(), fault.equals("none"));
+            }
+        }
+    }
+
+    private static void putFault(Vivahouse x, int candidate, String fault) throws ReflectiveOperationException {
+        Object c = ((List<?>) valueOf(x, "candidates")).get(candidate);
+        Object deposit = valueOf(valueOf(c, "thesis"), "standing");
+        switch (fault) {
+            case "halves": put(valueOf(c, "clock"), "halves", 1 + (int) valueOf(valueOf(c, "clock"), "halves")); break;
+            case "money": put(c, "money", 1 + (int) valueOf(c, "money")); break;
+            case "left": put(((List<?>) valueOf(x, "grants")).get(candidate), "left", 9); break;
+            case "one": put(deposit, "one", 0); break;
+            case "other": put(deposit, "other", 0); break;
+            case "outcome": put(c, "outcome", '-'); break;
+            default: break;
+        }
+    }
+
+    private static Object valueOf(Object owner, String field) throws ReflectiveOperationException {
+        return fieldOf(owner, field).get(owner);
+    }
+
+    private static void put(Object owner, String field, Object value) throws ReflectiveOperationException {
+        fieldOf(owner, field).set(owner, value);
+    }
+
+    private static Field fieldOf(Object owner, String field) throws ReflectiveOperationException {
+        Field f = owner.getClass().getDeclaredField(field);
+        f.setAccessible(true);
+        return f;
     }
 }
