@@ -1,6 +1,3 @@
-import java.util.ArrayList;
-import java.util.List;
-
 /** Counts what is not as due; each test ends with {@link #end}. */
 final class Check {
     /** A call whose answer, or whose exception, is looked at. */
@@ -24,12 +21,11 @@ final class Check {
         }
     }
 
-    /** The call throws exactly this exception, by a throw of the program's own, and changes nothing that is seen. */
+    /** The call throws exactly this exception, by a throw of the program's own, and changes nothing. */
     void refuses(String what, Class<?> kind, Vivahouse house, Call call) {
-        List<String> before = View.of(house);
+        String before = Inside.of(house);
         same(what, outcomeOf(call), "throws." + kind.getSimpleName());
-        List<String> after = new ArrayList<>(View.of(house));
-        same(what + " changes nothing", after, before);
+        same(what + " changes nothing", Inside.of(house), before);
     }
 
     /** The answer as a text, or the exception behind "throws."; one that the machine threw is told apart. */

@@ -11,7 +11,8 @@ import java.util.TreeMap;
  */
 public final class RandomRunsTest {
     private static final int RUNS = 400;
-    private static final int CALLS = 512;
+    /** The last one of the 512 calls of an object asks whether it is sound. */
+    private static final int CALLS = 511;
     private static final Check CHECK = new Check("RandomRunsTest");
 
     /** A kind of argument for each parameter: c candidate, m member, g grant, r regulation, b boolean, others below. */
@@ -91,7 +92,7 @@ public final class RandomRunsTest {
             again.add(answerOf(twin, methods.get(i), arguments.get(i)));
         }
         CHECK.same("run " + run + " without the calls that throw", again, answers);
-        CHECK.same("run " + run + " looks alike then", View.of(twin), View.of(house));
+        CHECK.same("run " + run + " is alike inside then", Inside.of(twin), Inside.of(house));
     }
 
     /** Each run has a call that it likes best, so that the most of everything is reached in some run. */
@@ -119,7 +120,9 @@ public final class RandomRunsTest {
 
     private static Object[] valuesAtFirst(int i) {
         if (i < 2) {
-            return new Object[] {6, 80 + below(41), 30 + below(31), 1 + below(9), 1 + below(9), below(5), below(2) == 0};
+            return new Object[] {
+                6, 80 + below(41), 30 + below(31), 1 + below(9), 1 + below(9), below(5), below(2) == 0,
+            };
         }
         if (i < 12) {
             return new Object[] {i < 7 ? 0 : i - 6, 400};
