@@ -1,92 +1,101 @@
+import java.io.IOException;
 import java.lang.reflect.Constructor;
 import java.lang.reflect.Field;
 import java.lang.reflect.Method;
 import java.lang.reflect.Modifier;
+import java.nio.file.Files;
+import java.nio.file.Path;
+import java.util.Map;
+import java.util.Set;
+import java.util.TreeMap;
 import java.util.TreeSet;
+import java.util.regex.Matcher;
+import java.util.regex.Pattern;
 
-/** The public face is that of the document, and no other member is seen from outside. */
+/** The public face is that of the document, read from there, and no other member is seen from outside. */
 public final class FaceTest {
-    private static final String[] FACE = {
-        "int regulation(int,int,int,int,int,int,boolean) IllegalArgumentException IllegalStateException",
-        "int member(int,int) IllegalArgumentException IllegalStateException",
-        "int tie(int,int,char) IndexOutOfBoundsException IllegalArgumentException IllegalStateException",
-        "int kin(int,int) IndexOutOfBoundsException UnsupportedOperationException",
-        "int candidate(char,boolean) IllegalArgumentException UnsupportedOperationException IllegalStateException",
-        "char mode(int,char) IndexOutOfBoundsException IllegalArgumentException UnsupportedOperationException",
-        "int pause(int,char) IndexOutOfBoundsException IllegalArgumentException UnsupportedOperationException",
-        "int resume(int) IndexOutOfBoundsException UnsupportedOperationException",
-        "int move(int,int) IndexOutOfBoundsException UnsupportedOperationException",
-        "int extend(int,int) IndexOutOfBoundsException IllegalArgumentException UnsupportedOperationException",
-        "int pass(int) IllegalArgumentException IllegalStateException",
-        "int month()",
-        "int clock(int) IndexOutOfBoundsException",
-        "int limit(int) IndexOutOfBoundsException",
-        "int reaches(int) IndexOutOfBoundsException NoSuchElementException",
-        "char state(int) IndexOutOfBoundsException",
-        "char outcome(int) IndexOutOfBoundsException",
-        "int supervise(int,int,boolean) IndexOutOfBoundsException UnsupportedOperationException",
-        "int release(int,int) IndexOutOfBoundsException UnsupportedOperationException",
-        "int supervisor(int,int) IndexOutOfBoundsException NoSuchElementException",
-        "int load(int) IndexOutOfBoundsException",
-        "int grant(int,int,int,int) IndexOutOfBoundsException IllegalArgumentException"
-                + " UnsupportedOperationException IllegalStateException",
-        "int left(int) IndexOutOfBoundsException",
-        "int money(int) IndexOutOfBoundsException",
-        "int gap(int) IndexOutOfBoundsException UnsupportedOperationException",
-        "int ethics(int) IndexOutOfBoundsException UnsupportedOperationException",
-        "char upgrade(int,int,boolean,int,boolean) IndexOutOfBoundsException UnsupportedOperationException",
-        "int publish(int) IndexOutOfBoundsException UnsupportedOperationException",
-        "int deposit(int,int) IndexOutOfBoundsException IllegalArgumentException UnsupportedOperationException",
-        "int clear(int,int) IndexOutOfBoundsException UnsupportedOperationException",
-        "char barred(int,int) IndexOutOfBoundsException",
-        "int examiners(int,int,int) IndexOutOfBoundsException UnsupportedOperationException",
-        "char viva(int,char,char) IndexOutOfBoundsException IllegalArgumentException UnsupportedOperationException",
-        "char adjudicate(int,int,char) IndexOutOfBoundsException IllegalArgumentException"
-                + " UnsupportedOperationException",
-        "int due(int) IndexOutOfBoundsException NoSuchElementException",
-        "boolean sign(int,int) IndexOutOfBoundsException UnsupportedOperationException",
-        "int award(int) IndexOutOfBoundsException UnsupportedOperationException",
-        "boolean appeal(int,boolean) IndexOutOfBoundsException UnsupportedOperationException",
-        "int ground(int,char) IndexOutOfBoundsException IllegalArgumentException UnsupportedOperationException",
-        "char reason(int,int) IndexOutOfBoundsException NoSuchElementException",
-        "boolean panel(int,int,int,int,int) IndexOutOfBoundsException IllegalArgumentException"
-                + " UnsupportedOperationException",
-        "int papers(int) IndexOutOfBoundsException",
-        "int withdrawn()",
-        "long checksum()",
-        "float awardShare(int,int) ArithmeticException",
-        "double meanClock() ArithmeticException",
-        "boolean isSound()",
-    };
+    private static final Path DOCUMENT = Path.of("../shared/DOC.md");
+    private static final Pattern FACE = Pattern.compile("(?s)\n## The public face\n\n```java\n(.*?)\n```\n");
+    private static final Pattern METHOD = Pattern.compile("\n {4}public (\\w+) (\\w+)\\(([^)]*)\\)([^;]*);");
+    private static final Pattern PROMISE =
+            Pattern.compile("\n## Promise (\\d+): (\\w+)\n\n`(\\w+) (\\w+)\\(([^)]*)\\)([^`]*)`: ");
+    private static final Check CHECK = new Check("FaceTest");
 
     private FaceTest() {
     }
 
-    public static void main(String[] args) {
-        Check check = new Check("FaceTest");
-        check.same("modifiers of the class", Modifier.toString(Vivahouse.class.getModifiers()), "public final");
-        TreeSet<String> seen = new TreeSet<>();
-        TreeSet<String> hidden = new TreeSet<>();
+    public static void main(String[] args) throws IOException {
+        String document = Files.readString(DOCUMENT);
+        Map<String, String> told = told(document);
+        CHECK.same("methods of the document", told.size(), 47);
+        promised(document, told);
+        members(told);
+        constructor();
+        CHECK.end();
+    }
+
+    /** The heads of the document's face, by the names of the methods. */
+    private static Map<String, String> told(String document) {
+        Matcher face = FACE.matcher(document);
+        CHECK.same("the document has a face", face.find(), true);
+        String text = face.group(1);
+        CHECK.same("its class", text.contains("public final class Vivahouse {"), true);
+        CHECK.same("its constructor", text.contains("    public Vivahouse();"), true);
+        Map<String, String> heads = new TreeMap<>();
+        Matcher m = METHOD.matcher(text);
+        while (m.find()) {
+            heads.put(m.group(2), head(m.group(1), m.group(2), m.group(3), m.group(4)));
+        }
+        return heads;
+    }
+
+    /** Each promise behind that of the new object is of a method of the face, in its words. */
+    private static void promised(String document, Map<String, String> told) {
+        Set<String> met = new TreeSet<>();
+        Matcher m = PROMISE.matcher(document);
+        while (m.find()) {
+            String name = m.group(4);
+            CHECK.same("the title of promise " + m.group(1), m.group(2), name);
+            CHECK.same("promise " + m.group(1), head(m.group(3), name, m.group(5), m.group(6)), told.get(name));
+            met.add(name);
+        }
+        CHECK.same("methods with a promise", met.toString(), told.keySet().toString());
+    }
+
+    private static String head(String answer, String name, String parameters, String exceptions) {
+        String types = parameters.replaceAll(" \\w+(,|$)", "$1").replace(" ", "");
+        return answer + " " + name + "(" + types + ")" + exceptions.replace(" throws", "").replace(",", "");
+    }
+
+    private static void members(Map<String, String> told) {
+        CHECK.same("modifiers of the class", Modifier.toString(Vivahouse.class.getModifiers()), "public final");
+        CHECK.same("it is of no other class", Vivahouse.class.getSuperclass() == Object.class
+                && Vivahouse.class.getInterfaces().length == 0, true);
+        Map<String, String> seen = new TreeMap<>();
+        Set<String> hidden = new TreeSet<>();
         for (Method m : Vivahouse.class.getDeclaredMethods()) {
             if (Modifier.isPrivate(m.getModifiers())) {
                 hidden.add(m.getName());
             } else {
-                seen.add(textOf(m));
-                check.same("modifiers of " + m.getName(), Modifier.toString(m.getModifiers()), "public");
+                CHECK.same("there is one " + m.getName(), seen.put(m.getName(), textOf(m)) == null, true);
+                CHECK.same("modifiers of " + m.getName(), Modifier.toString(m.getModifiers()), "public");
             }
         }
-        check.same("the face", String.join("; ", seen), String.join("; ", new TreeSet<>(java.util.List.of(FACE))));
+        CHECK.same("the face", seen.toString(), told.toString());
         for (Method m : Vivahouse.class.getMethods()) {
-            check.same("no private method is named " + m.getName(), hidden.contains(m.getName()), false);
+            CHECK.same("no private method is named " + m.getName(), hidden.contains(m.getName()), false);
         }
         for (Field f : Vivahouse.class.getDeclaredFields()) {
-            check.same(f.getName() + " is private", Modifier.isPrivate(f.getModifiers()), true);
+            CHECK.same(f.getName() + " is private", Modifier.isPrivate(f.getModifiers()), true);
         }
+    }
+
+    private static void constructor() {
         Constructor<?>[] made = Vivahouse.class.getDeclaredConstructors();
-        check.same("constructors", made.length, 1);
-        check.same("parameters of the constructor", made[0].getParameterCount(), 0);
-        check.same("modifiers of the constructor", Modifier.toString(made[0].getModifiers()), "public");
-        check.end();
+        CHECK.same("constructors", made.length, 1);
+        CHECK.same("parameters of the constructor", made[0].getParameterCount(), 0);
+        CHECK.same("exceptions of the constructor", made[0].getExceptionTypes().length, 0);
+        CHECK.same("modifiers of the constructor", Modifier.toString(made[0].getModifiers()), "public");
     }
 
     private static String textOf(Method m) {
